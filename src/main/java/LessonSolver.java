@@ -13,7 +13,7 @@ public final class LessonSolver {
     private static final int MOST_LITERALS = 4000;
     private static final int MOST_IN_ONE_CLAUSE = 20;
     private static final int MOST_ASSUMPTIONS = 40;
-    private static final int MOST_LESSONS = 512;
+    private static final int MOST_LESSONS = 64;
 
     private static final int NO_LITERAL = 0;
     private static final int NO_CONFLICT = -1;
