@@ -16,6 +16,9 @@ public final class PlainDeskTest {
         for (int run = 0; run < 60; run++) {
             denseRun(run, new Numbers(30000 + run), 10 + run % 7);
         }
+        for (int run = 0; run < 60; run++) {
+            parityRun(run, new Numbers(40000 + run), run % 7);
+        }
         CHECK.end();
     }
 
@@ -89,6 +92,36 @@ public final class PlainDeskTest {
             ask("end of dense run " + run, desk, plain, numbers.literal(variables), kind);
         }
         askCounts("end of dense run " + run, desk, plain);
+    }
+
+    /** Sums of four variables that are even or odd: one search learns more than there is room for. */
+    private static void parityRun(int run, Numbers numbers, int assumed) {
+        LessonSolver desk = new LessonSolver(16);
+        PlainDesk plain = new PlainDesk(16);
+        String at = "parity run " + run + ": ";
+        for (int sum = 0; sum < 11; sum++) {
+            int odd = numbers.below(2);
+            int first = 1 + numbers.below(4);
+            int[] members = {first, 5 + numbers.below(4), 9 + numbers.below(4), 13 + numbers.below(4)};
+            for (int signs = 0; signs < 16; signs++) {
+                if (Integer.bitCount(signs) % 2 == odd) {
+                    continue;
+                }
+                for (int i = 0; i < 4; i++) {
+                    int literal = (signs >> i & 1) == 0 ? members[i] : -members[i];
+                    CHECK.due(at + "add", desk.add(literal), plain.add(literal));
+                }
+                CHECK.due(at + "close", desk.close(), plain.close());
+            }
+        }
+        for (int i = 0; i < assumed; i++) {
+            int literal = numbers.literal(16);
+            CHECK.due(at + "assume", desk.assume(literal), plain.assume(literal));
+        }
+        for (int kind = 0; kind < 5; kind++) {
+            ask(at, desk, plain, numbers.literal(16), kind);
+        }
+        askCounts(at, desk, plain);
     }
 
     private static void ask(String at, LessonSolver desk, PlainDesk plain, int literal, int kind) {
