@@ -99,21 +99,7 @@ public final class PlainDeskTest {
         LessonSolver desk = new LessonSolver(16);
         PlainDesk plain = new PlainDesk(16);
         String at = "parity run " + run + ": ";
-        for (int sum = 0; sum < 11; sum++) {
-            int odd = numbers.below(2);
-            int first = 1 + numbers.below(4);
-            int[] members = {first, 5 + numbers.below(4), 9 + numbers.below(4), 13 + numbers.below(4)};
-            for (int signs = 0; signs < 16; signs++) {
-                if (Integer.bitCount(signs) % 2 == odd) {
-                    continue;
-                }
-                for (int i = 0; i < 4; i++) {
-                    int literal = (signs >> i & 1) == 0 ? members[i] : -members[i];
-                    CHECK.due(at + "add", desk.add(literal), plain.add(literal));
-                }
-                CHECK.due(at + "close", desk.close(), plain.close());
-            }
-        }
+        Sums.closeBoth(at, CHECK, desk, plain, numbers);
         for (int i = 0; i < assumed; i++) {
             int literal = numbers.literal(16);
             CHECK.due(at + "assume", desk.assume(literal), plain.assume(literal));

@@ -256,7 +256,8 @@ public final class WholeDocumentTest {
     private static void lessonsTakeNoRoom() {
         LessonSolver desk = new LessonSolver(16);
         PlainDesk plain = new PlainDesk(16);
-        sums(desk, plain);
+        // With these numbers the sums have a model, and the search for it fills the room for lessons.
+        Sums.closeBoth("sums: ", CHECK, desk, plain, new Numbers(40002));
         int model = plain.least();
         CHECK.due("sums: least", desk.least(), model);
         CHECK.due("lessons are no clauses", desk.count(0), 88);
@@ -286,26 +287,5 @@ public final class WholeDocumentTest {
             CHECK.due(at + ": add(" + literal + ")", desk.add(literal), plain.add(literal));
         }
         CHECK.due(at + ": close()", desk.close(), plain.close());
-    }
-
-    /** Eleven sums of four variables, even or odd: they have a model, found after many conflicts. */
-    private static void sums(LessonSolver desk, PlainDesk plain) {
-        Numbers numbers = new Numbers(40002);
-        for (int sum = 0; sum < 11; sum++) {
-            int odd = numbers.below(2);
-            int[] members = new int[4];
-            for (int i = 0; i < 4; i++) {
-                members[i] = 4 * i + 1 + numbers.below(4);
-            }
-            for (int signs = 0; signs < 16; signs++) {
-                if (Integer.bitCount(signs) % 2 != odd) {
-                    int[] literals = new int[4];
-                    for (int i = 0; i < 4; i++) {
-                        literals[i] = (signs >> i & 1) == 0 ? members[i] : -members[i];
-                    }
-                    closeBoth("sums", desk, plain, literals);
-                }
-            }
-        }
     }
 }
